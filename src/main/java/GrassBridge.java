@@ -746,6 +746,8 @@ public final class GrassBridge {
         private static final int FLOOR = 4;
         private static final int TENSION_AT_FIRST = 50;
         private static final int LOST_IN_A_YEAR = 40;
+        /** No rope is stronger: 27 cords of care 9, 10 times. */
+        private static final int MOST_STRENGTH = 2430;
 
         private final Rope[] ropes = new Rope[PLACES];
         private final int[] tensions = new int[PLACES];
@@ -808,7 +810,7 @@ public final class GrassBridge {
         }
 
         int bearing(int year, int moreWet) {
-            int least = Integer.MAX_VALUE;
+            int least = MOST_STRENGTH;
             int slackest = MOST_TENSION;
             int tightest = 0;
             for (int i = 0; i < FLOOR; i++) {
@@ -922,6 +924,7 @@ public final class GrassBridge {
         private final int[] handsTogether = new int[SETS];
         private final int[] longest = new int[SETS];
         private final int[] rest = new int[SETS];
+        private final int[] open = new int[SETS];
         private final int[] row = new int[MOST_PLANNED];
         /** The steps done ahead of each place of the row, and the fewest days that they take. */
         private final int[] done = new int[MOST_PLANNED + 1];
@@ -984,17 +987,17 @@ public final class GrassBridge {
             int all = (1 << steps) - 1;
             rest[all] = 0;
             for (int set = all - 1; set >= 0; set--) {
+                open[set] = openFrom(set);
                 rest[set] = restFrom(set);
             }
         }
 
         private int restFrom(int set) {
-            int open = openTunes(set);
             int least = NEVER;
             for (int s = 0; s < steps; s++) {
                 if (may(set, s)) {
                     // A group is met once, at the least of its steps.
-                    int others = work.kinds[s] == TUNE ? open & -(2 << s) : 0;
+                    int others = work.kinds[s] == TUNE ? open[set] & -(2 << s) : 0;
                     least = Math.min(least, restGrouped(set, 1 << s, others));
                 }
             }
@@ -1018,13 +1021,13 @@ public final class GrassBridge {
             return least;
         }
 
-        /** The steps of kind TUNE that may be done next, all of which may be of one group. */
-        private int openTunes(int set) {
-            int open = 0;
+        /** The steps of kind TUNE that may be done next: none of them is AFTER another. */
+        private int openFrom(int set) {
+            int found = 0;
             for (int s = 0; s < steps; s++) {
-                open |= work.kinds[s] == TUNE && may(set, s) ? 1 << s : 0;
+                found |= work.kinds[s] == TUNE && may(set, s) ? 1 << s : 0;
             }
-            return open;
+            return found;
         }
 
         /** Whether a step may be done next, when the steps of a set are done. */
@@ -1067,15 +1070,15 @@ public final class GrassBridge {
         /** The fewest days of all, if the row goes on with a step behind the first k. */
         private int daysWith(int k, int s) {
             int group = 1 << s;
-            int open = work.kinds[s] == TUNE ? openTunes(done[k]) : group;
-            int least = spent[k] + restGrouped(done[k], group, open & ~group);
+            int others = work.kinds[s] == TUNE ? open[done[k]] & ~group : 0;
+            int least = spent[k] + restGrouped(done[k], group, others);
             for (int from = k - 1; from >= 0; from--) {
                 group |= 1 << row[from];
-                open = openTunes(done[from]);
-                if ((group & ~open) != 0) {
+                int openThen = open[done[from]];
+                if ((group & ~openThen) != 0) {
                     break;
                 }
-                least = Math.min(least, spent[from] + restGrouped(done[from], group, open & ~group));
+                least = Math.min(least, spent[from] + restGrouped(done[from], group, openThen & ~group));
             }
             return least;
         }
@@ -1086,7 +1089,7 @@ public final class GrassBridge {
             int least = spent[k] + longest[group];
             for (int from = k - 1; from >= 0; from--) {
                 group |= 1 << row[from];
-                if ((group & ~openTunes(done[from])) != 0 || handsTogether[group] > seenHands) {
+                if ((group & ~open[done[from]]) != 0 || handsTogether[group] > seenHands) {
                     break;
                 }
                 least = Math.min(least, spent[from] + longest[group]);
