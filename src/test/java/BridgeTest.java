@@ -14,6 +14,7 @@ public final class BridgeTest {
         breaks();
         breaksByPlaces();
         blame();
+        blameOfOneCord();
         check.end();
     }
 
@@ -122,7 +123,32 @@ public final class BridgeTest {
         check.due("bears() by the worst", x.bears(), 4 * 365);
         x.cut(3);
         check.due("bears(), 3 is empty", x.bears(), 0);
+        evenAtTheEdges();
         notBelow0();
+    }
+
+    private static void evenAtTheEdges() {
+        int[] tensions = {0, 99};
+        for (int tension : tensions) {
+            GrassBridge x = Check.hung(0b111111, 1);
+            for (int place = 0; place < 4; place++) {
+                x.tension(place, tension);
+            }
+            check.due("bears(), all of " + tension, x.bears(), 1480);
+            x.rain(0, 2);
+            x.weeks(1);
+            check.due("bears(), 2 of wet are none by 3", x.bears(), 1480);
+            check.due("load(1480)", x.load(1480), 1);
+            check.due("till(1480)", x.till(1480), 1);
+            x.rain(1, 1);
+            x.weeks(1);
+            check.due("bears(), 3 of wet", x.bears(), 1476);
+            check.due("till(1480)", x.till(1480), 0);
+        }
+        GrassBridge hands = Check.hung(0b111111, 1);
+        hands.tension(4, 0);
+        hands.tension(5, 99);
+        check.due("hands need not be even", hands.bears(), 1480);
     }
 
     private static void notBelow0() {
@@ -231,16 +257,20 @@ public final class BridgeTest {
         }
         check.due("strength(0)", x.strength(0), 10);
         check.due("broken(0, 0)", x.broken(0, 0), -9);
-        // Strength 10, less by 3: the 6th week of rain 5 makes it 0.
         x.weeks(5);
         check.due("strength(0) behind 5", x.strength(0), 2);
         check.due("count(5)", x.count(5), 0);
+        x.rain(5, 4);
         x.weeks(1);
-        check.due("strength(0) behind 6", x.strength(0), 0);
+        check.due("strength(0) of wet 29", x.strength(0), 1);
+        check.due("count(5)", x.count(5), 0);
+        x.rain(6, 1);
+        x.weeks(1);
+        check.due("strength(0) of wet 30", x.strength(0), 0);
         check.due("count(5)", x.count(5), 1);
         check.due("broken(0, 0)", x.broken(0, 0), rope);
         check.due("broken(0, 1)", x.broken(0, 1), 9);
-        check.due("broken(0, 2)", x.broken(0, 2), 5);
+        check.due("broken(0, 2)", x.broken(0, 2), 6);
         check.due("gone from its place", x.ropeOf(rope, 3), -9);
         check.due("cut(0)", x.cut(0), -3);
         check.due("tension(0, 1)", x.tension(0, 1), -3);
@@ -251,7 +281,7 @@ public final class BridgeTest {
         check.due("broken(7, -1)", x.broken(7, -1), -2);
         x.bring(0, 300, 0);
         check.due("hang a new one", x.hang(Check.great(x, 0), 0), 1);
-        check.due("it breaks not at once", x.weeks(1), 7);
+        check.due("it breaks not at once", x.weeks(1), 8);
         check.due("count(5)", x.count(5), 1);
     }
 
@@ -320,5 +350,33 @@ public final class BridgeTest {
         check.due("blame(0, -1)", x.blame(0, -1), -1);
         check.due("blame(1, 0)", x.blame(1, 0), -1);
         check.due("blame(-1, 0)", x.blame(-1, 0), -1);
+    }
+
+    /** One cord of the 27 is the worst, wherever it lies. */
+    private static void blameOfOneCord() {
+        for (int worst = 0; worst < 27; worst++) {
+            GrassBridge x = new GrassBridge();
+            x.house(0, 1);
+            x.house(1, 1);
+            x.bring(0, 500, 0);
+            x.bring(1, 500, 0);
+            x.set(1, 1, 1);
+            int[] ropes = new int[9];
+            for (int i = 0; i < 9; i++) {
+                int at = worst - 3 * i;
+                ropes[i] = x.small(at == 0 ? 1 : 0, at == 1 ? 1 : 0, at == 2 ? 1 : 0);
+            }
+            int a = x.lay(ropes[0], ropes[1], ropes[2]);
+            int b = x.lay(ropes[3], ropes[4], ropes[5]);
+            int c = x.lay(ropes[6], ropes[7], ropes[8]);
+            x.hang(x.lay(a, b, c), 0);
+            x.set(1, 1, 9);
+            for (int i = 0; i < 9; i++) {
+                x.close();
+            }
+            x.weeks(52);
+            check.due("worst cord " + worst + ": blame(0, 0)", x.blame(0, 0), 0);
+            check.due("worst cord " + worst + ": blame(0, 1)", x.blame(0, 1), 1);
+        }
     }
 }

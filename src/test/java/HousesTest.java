@@ -28,6 +28,7 @@ public final class HousesTest {
         check.due("house 24, hands 0", x.house(0, 0), -4);
         check.due("house 24, village 4", x.house(4, 1), -1);
         check.due("count(2)", x.count(2), 24);
+        check.due("count(16)", x.count(16), 2);
         check.due("count(4)", x.count(4), 45 + 45 + 1 + 2 + 3 + 4 + 5 + 6);
     }
 
@@ -83,6 +84,10 @@ public final class HousesTest {
         check.due("bring, cords laid", x.bring(0, 50, 0), -3);
         x.close();
         check.due("bring, next year", x.bring(0, 50, 0), 5);
+        x.house(0, 1);
+        x.bring(1, 50, 0);
+        x.small(1, 1, 0);
+        check.due("bring, one cord laid", x.bring(0, 50, 0), -3);
     }
 
     private static void brought() {
@@ -151,6 +156,10 @@ public final class HousesTest {
         shares("two are left over", x, 1, 2, 2, 1);
         check.due("share(4)", x.share(4), -1);
         check.due("share(-1)", x.share(-1), -1);
+        GrassBridge one = new GrassBridge();
+        one.house(0, 1);
+        one.ask(9999);
+        shares("one of one hand", one, 9999);
         GrassBridge away = new GrassBridge();
         away.house(0, 4);
         away.ask(10);

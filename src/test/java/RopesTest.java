@@ -32,7 +32,24 @@ public final class RopesTest {
         check.due("small(2, 1, 2)", x.small(2, 1, 2), -3);
         x.close();
         check.due("small, next year", x.small(2, 2, 2), -3);
+        lastCords();
         soundness();
+    }
+
+    /** Three houses with a cord each, then two with one and two. */
+    private static void lastCords() {
+        int[][] rows = {{0, 1, 2}, {3, 3, 4}, {4, 3, 3}, {3, 4, 3}};
+        for (int[] row : rows) {
+            GrassBridge x = new GrassBridge();
+            int[] fathoms = {10, 10, 10, 20, 10};
+            for (int i = 0; i < 5; i++) {
+                x.house(0, 1);
+                x.bring(i, fathoms[i], 0);
+            }
+            check.due("small of the last cords", x.small(row[0], row[1], row[2]), 0);
+            check.due("none is left", x.small(row[0], row[1], row[2]), -3);
+            check.due("none is left", x.small(row[2], row[0], row[1]), -3);
+        }
     }
 
     private static void soundness() {
@@ -81,7 +98,13 @@ public final class RopesTest {
         check.due("lay(9, 10, 2), 2 is laid", x.lay(9, 10, 2), -3);
         check.due("lay(0, 9, 10), 0 is laid", x.lay(0, 9, 10), -3);
         check.due("lay(9, 3, 10), 3 is laid", x.lay(9, 3, 10), -3);
+        for (int laid = 0; laid < 9; laid++) {
+            check.due("lay(9, 10, " + laid + ")", x.lay(9, 10, laid), -3);
+        }
         check.due("lay(14, 12, 13)", x.lay(14, 12, 13), 15);
+        for (int laid = 12; laid < 15; laid++) {
+            check.due("FREE: " + laid, x.ropeOf(laid, 2), 0);
+        }
         check.due("ropeOf(15, 0)", x.ropeOf(15, 0), 2);
         check.due("13 and 13 and 13 less 2", x.ropeOf(15, 1), 37);
         int second = Check.great(x, 0);
