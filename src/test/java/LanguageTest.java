@@ -21,8 +21,8 @@ public final class LanguageTest {
     private static void forbiddenWords(String text) {
         String[] words = {"throw", "throws", "try", "catch", "finally", "synchronized", "assert",
             "protected", "import", "package", "volatile", "native", "strictfp", "var",
-            "equals", "hashCode", "toString", "System\\.(?!arraycopy)", "\\w+Exact\\b", "Integer\\.[A-Z]", "->", "::",
-            "\\bstatic\\s*\\{", "private class", "Object", "Random", "Thread"};
+            "equals", "hashCode", "toString", "System\\.(?!arraycopy)", "\\w+Exact\\b",
+            "Integer\\.[A-Z]", "->", "::", "\\bstatic\\s*\\{", "private class", "Object", "Random", "Thread"};
         for (String word : words) {
             String bounded = word.matches("\\w+") ? "\\b" + word + "\\b" : word;
             Matcher found = Pattern.compile(bounded).matcher(text);
