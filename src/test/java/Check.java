@@ -1,13 +1,23 @@
 /** What the tests share: counting wrong answers, and calls that many of them need. */
 final class Check {
+    /** Numbers as far from any that is let as there are. */
+    static final int[] FAR_BELOW = {Integer.MIN_VALUE, Integer.MIN_VALUE + 1, -2000000000};
+    static final int[] FAR_ABOVE = {Integer.MAX_VALUE, Integer.MAX_VALUE - 1, 2000000000};
+
     private int wrong;
     private int asked;
+    private String sentence = "";
+
+    /** The document's words that the answers from here on stand for, told with a wrong one. */
+    void sentence(String words) {
+        sentence = "[" + words + "] ";
+    }
 
     void due(String call, long got, long want) {
         asked++;
         if (got != want) {
             wrong++;
-            System.out.println(call + " answered " + got + ", due is " + want);
+            System.out.println(sentence + call + " answered " + got + ", due is " + want);
         }
     }
 
@@ -15,7 +25,7 @@ final class Check {
         asked++;
         if (!got.equals(want)) {
             wrong++;
-            System.out.println(call + " answered\n  " + got + ", due is\n  " + want);
+            System.out.println(sentence + call + " answered\n  " + got + ", due is\n  " + want);
         }
     }
 
@@ -44,13 +54,48 @@ final class Check {
 
     /** A bridge where one house, of so many hands, hung great ropes at places (a bit each). */
     static GrassBridge hung(int places, int hands) {
+        return hung(places, hands, 5);
+    }
+
+    /** The same of cords of a care: 1 gives great ropes of soundness 1, 9 of 73. */
+    static GrassBridge hung(int places, int hands, int care) {
         GrassBridge x = new GrassBridge();
         x.house(0, hands);
+        x.set(0, 1, care);
         x.bring(0, 2000, 0);
         for (int place = 0; place < 6; place++) {
             if ((places & 1 << place) != 0) {
                 x.hang(great(x, 0), place);
             }
+        }
+        return x;
+    }
+
+    /** A bridge of so many houses of a hand each. */
+    static GrassBridge houses(int count) {
+        GrassBridge x = new GrassBridge();
+        for (int i = 0; i < count; i++) {
+            x.house(i % 4, 1);
+        }
+        return x;
+    }
+
+    /** So many years are closed. */
+    static GrassBridge older(GrassBridge x, int years) {
+        for (int i = 0; i < years; i++) {
+            x.close();
+        }
+        return x;
+    }
+
+    /** Four houses of 200 cords each, and so many small ropes of three cords of one of them. */
+    static GrassBridge ropes(int count) {
+        GrassBridge x = houses(4);
+        for (int i = 0; i < 4; i++) {
+            x.bring(i, 2000, 0);
+        }
+        for (int i = 0; i < count; i++) {
+            x.small(i / 60, i / 60, i / 60);
         }
         return x;
     }
