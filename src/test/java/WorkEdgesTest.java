@@ -178,6 +178,25 @@ public final class WorkEdgesTest {
         check.due("AFTER one that is cleared", x.step(0, 0, 1, 1, 1), -1);
         x.step(0, 0, 4, 1, 0);
         row("told anew", x, 4, 0);
+        nothingStaysOfThoseCleared();
+    }
+
+    /** Cuts that leave less than two may be, as no STEP that is cleared follows them. */
+    private static void nothingStaysOfThoseCleared() {
+        GrassBridge x = Check.hung(0b000111, 9);
+        int[] kinds = {0, 2};
+        for (int kind : kinds) {
+            for (int i = 0; i < 3; i++) {
+                x.step(kind, kind == 0 ? 3 + i : 100 * i, 1, 1, 0);
+            }
+            row("three led, or tuned at once", x, kind == 0 ? 3 : 1, 0, 1, 2);
+            x.clear();
+            for (int i = 0; i < 3; i++) {
+                x.step(1, i, 1, 1, 0);
+            }
+            row("three cut in their stead", x, 3, 0, 1, 2);
+            x.clear();
+        }
     }
 
     private static void emptyThen() {
